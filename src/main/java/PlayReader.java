@@ -568,7 +568,7 @@ public final class PlayReader {
             if (!has(i)) {
                 return;
             }
-            for (int k = i; k + 1 < size; k++) {
+            for (int k = i; k + 1 < size && k + 1 < things.length; k++) {
                 things[k] = things[k + 1];
             }
             size--;
@@ -752,8 +752,8 @@ public final class PlayReader {
         final int[][] left = new int[ROW_LENGTH + 1][ROW_LENGTH + 1];
 
         void compare(Row first, Row second) {
-            for (int i = first.size; i >= 0; i--) {
-                for (int j = second.size; j >= 0; j--) {
+            for (int i = Math.min(first.size, ROW_LENGTH); i >= 0; i--) {
+                for (int j = Math.min(second.size, ROW_LENGTH); j >= 0; j--) {
                     left[i][j] = differenceFrom(first, i, second, j);
                 }
             }
