@@ -1,4 +1,5 @@
 import java.io.IOException;
+import java.lang.reflect.Array;
 import java.lang.reflect.Constructor;
 import java.lang.reflect.Field;
 import java.lang.reflect.Method;
@@ -6,11 +7,17 @@ import java.lang.reflect.Modifier;
 import java.nio.file.Files;
 import java.nio.file.Path;
 import java.util.Arrays;
+import java.util.IdentityHashMap;
+import java.util.Map;
 import java.util.Set;
 import java.util.TreeSet;
+import java.util.regex.Matcher;
 import java.util.regex.Pattern;
 
-/** The class has the document's face and no other; its source has none of the words that LANGUAGE.md rules out. */
+/**
+ * The class has the document's face and no other; its source has none of the words that LANGUAGE.md rules out and
+ * stays inside its limits; its objects leave room for as many more as there are calls.
+ */
 public final class FaceTest {
     private static final String[] METHODS = {
         "int both(int, int, int)", "int breaks(int)", "int clear()", "int condition(int, int, int)",
@@ -28,6 +35,10 @@ public final class FaceTest {
         "\\bhashCode\\b", "\\btoString\\b", "\\bSystem\\.(?!arraycopy)", "\\bThread\\b", "\\bObject\\b"
     };
 
+    private static final int CALLS = 512;
+    private static final int MOST_OBJECTS = 600_000;
+    private static final int MOST_ELEMENTS = 7_300_000;
+
     private static Check check;
 
     public static void main(String[] args) throws IOException {
@@ -35,8 +46,33 @@ public final class FaceTest {
         methods();
         members();
         nestedClasses();
+        documentsFace(Path.of(args.length > 1 ? args[1] : "../shared/DOC.md"));
         source(Path.of(args.length > 0 ? args[0] : "src/main/java/PlayReader.java"));
+        room();
         check.end();
+    }
+
+    /** The document's code says each constant and method of the class, and the class has no other. */
+    private static void documentsFace(Path file) throws IOException {
+        if (!Files.isReadable(file)) {
+            System.out.println("FaceTest: no " + file + ", the face is not looked up");
+            return;
+        }
+        Set<String> methods = new TreeSet<>();
+        Set<String> constants = new TreeSet<>();
+        for (String line : Files.readAllLines(file)) {
+            String code = line.trim();
+            if (code.matches("public (int|long) .*\\(.*\\);")) {
+                methods.add(code.substring("public ".length(), code.length() - 1).replaceAll("int \\w+(?=[,)])", "int"));
+            } else if (code.startsWith("public static final int ")) {
+                String values = code.substring("public static final int ".length(), code.length() - 1);
+                constants.addAll(Arrays.asList(values.split(", ")));
+            }
+        }
+        check.holds("the document's methods are " + methods, methods.equals(new TreeSet<>(Arrays.asList(METHODS))));
+        Set<String> own = Set.of("NONE = " + PlayReader.NONE, "BAD = " + PlayReader.BAD, "NO = " + PlayReader.NO,
+            "FULL = " + PlayReader.FULL);
+        check.holds("the document's constants are " + constants, constants.equals(own));
     }
 
     private static void methods() {
@@ -97,7 +133,20 @@ public final class FaceTest {
             for (Field f : c.getDeclaredFields()) {
                 checkStatic(f);
             }
+            for (Method m : c.getDeclaredMethods()) {
+                check.holds("parameters of " + m.getName(), m.getParameterCount() <= 7);
+            }
+            checkFields(c);
         }
+        checkFields(PlayReader.class);
+    }
+
+    private static void checkFields(Class<?> c) {
+        int fields = 0;
+        for (Field f : c.getDeclaredFields()) {
+            fields += Modifier.isStatic(f.getModifiers()) ? 0 : 1;
+        }
+        check.holds("at most twenty fields in " + c.getName(), fields <= 20);
     }
 
     private static void source(Path file) throws IOException {
@@ -107,5 +156,80 @@ public final class FaceTest {
             check.holds("no " + word + " in the source", !Pattern.compile(word).matcher(code).find());
         }
         check.holds("signs 1 to 127", text.chars().allMatch(c -> c > 0 && c < 128));
+        methodLengths(code);
+    }
+
+    /** A method begins with a line that ends with ") {" and ends with a brace that stands as far in as its first word. */
+    private static void methodLengths(String code) {
+        Matcher method = Pattern.compile("(?ms)^( {4}| {8})(?!for|if|while|switch)(\\w[^\n;]*\\)) \\{$.*?^\\1\\}$").matcher(code);
+        int methods = 0;
+        while (method.find()) {
+            methods++;
+            long lines = method.group().lines().count();
+            check.holds(lines + " lines of " + method.group(2), lines <= 60);
+        }
+        check.holds("many methods were found: " + methods, methods > METHODS.length);
+    }
+
+    // ---- room
+
+    /** All calls of a run share one room: a new object for each of them has room there, and a used one keeps no more. */
+    private static void room() {
+        Map<Object, Boolean> seen = new IdentityHashMap<>();
+        long elements = walk(new PlayReader(), seen);
+        check.holds("room for " + seen.size() + " objects, " + CALLS + " times", seen.size() * CALLS <= MOST_OBJECTS);
+        check.holds("room for " + elements + " elements, " + CALLS + " times", elements * CALLS <= MOST_ELEMENTS);
+
+        PlayReader used = Boundaries.someOfAll();
+        int before = objectsOf(used);
+        for (int i = 0; i < CALLS; i++) {
+            used.put(i % 8, 0, i % 100);
+            used.hear(i % 4, i % 5 - 1);
+            used.both(i % 4, i % 3, i % 2);
+            used.differ(i % 8, i % 3);
+            used.step(i % 8, i % 3, i % 7);
+            used.verdict(i % 4);
+            used.may(i % 4, i % 8);
+            used.fit(i % 8, i % 3, i, (i + 1) % 8);
+            used.tour(i % 8, i % 256, i, i % 21);
+        }
+        check.due("objects kept behind calls that need none", objectsOf(used), before);
+    }
+
+    private static int objectsOf(PlayReader reader) {
+        Map<Object, Boolean> seen = new IdentityHashMap<>();
+        walk(reader, seen);
+        return seen.size();
+    }
+
+    /** How many fields and elements an object and all that it holds have; its parts are told to seen. */
+    private static long walk(Object part, Map<Object, Boolean> seen) {
+        if (part == null || seen.put(part, true) != null) {
+            return 0;
+        }
+        long elements = 0;
+        if (part.getClass().isArray()) {
+            boolean ofObjects = !part.getClass().getComponentType().isPrimitive();
+            elements = Array.getLength(part);
+            for (int i = 0; ofObjects && i < Array.getLength(part); i++) {
+                elements += walk(Array.get(part, i), seen);
+            }
+            return elements;
+        }
+        for (Field f : part.getClass().getDeclaredFields()) {
+            if (!Modifier.isStatic(f.getModifiers())) {
+                elements += 1 + (f.getType().isPrimitive() ? 0 : walk(valueOf(f, part), seen));
+            }
+        }
+        return elements;
+    }
+
+    private static Object valueOf(Field f, Object of) {
+        f.setAccessible(true);
+        try {
+            return f.get(of);
+        } catch (IllegalAccessException e) {
+            throw new IllegalStateException(e);
+        }
     }
 }
