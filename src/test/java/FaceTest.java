@@ -63,7 +63,8 @@ public final class FaceTest {
         for (String line : Files.readAllLines(file)) {
             String code = line.trim();
             if (code.matches("public (int|long) .*\\(.*\\);")) {
-                methods.add(code.substring("public ".length(), code.length() - 1).replaceAll("int \\w+(?=[,)])", "int"));
+                String method = code.substring("public ".length(), code.length() - 1);
+                methods.add(method.replaceAll("int \\w+(?=[,)])", "int"));
             } else if (code.startsWith("public static final int ")) {
                 String values = code.substring("public static final int ".length(), code.length() - 1);
                 constants.addAll(Arrays.asList(values.split(", ")));
@@ -159,9 +160,10 @@ public final class FaceTest {
         methodLengths(code);
     }
 
-    /** A method begins with a line that ends with ") {" and ends with a brace that stands as far in as its first word. */
+    /** A method begins with a line that ends with ") {", and ends with a brace as far in as its first word. */
     private static void methodLengths(String code) {
-        Matcher method = Pattern.compile("(?ms)^( {4}| {8})(?!for|if|while|switch)(\\w[^\n;]*\\)) \\{$.*?^\\1\\}$").matcher(code);
+        String begin = "^( {4}| {8})(?!for|if|while|switch)(\\w[^\n;]*\\)) \\{$";
+        Matcher method = Pattern.compile("(?ms)" + begin + ".*?^\\1\\}$").matcher(code);
         int methods = 0;
         while (method.find()) {
             methods++;
@@ -173,7 +175,7 @@ public final class FaceTest {
 
     // ---- room
 
-    /** All calls of a run share one room: a new object for each of them has room there, and a used one keeps no more. */
+    /** All calls of a run share one room: a new object for each has room there, and a used one keeps no more. */
     private static void room() {
         Map<Object, Boolean> seen = new IdentityHashMap<>();
         long elements = walk(new PlayReader(), seen);
